@@ -229,6 +229,11 @@ final class DayTest {
         }
         MarkdownMarket older = Check.market("product a base 10 life 9;batch 1 a 1;batch 0 a 1;batch 0 a 1;buyer 9 a 10;", 2);
         bestIs(older, 0, 1, 0);
+        // The older unit costs no more, but leaves less.
+        MarkdownMarket fresh = Check.market("product a base 100 life 9 markdown 1 90;product b base 100 life 9;"
+                + "batch 1 a 1;batch 0 a 1;batch 1 b 1;batch 0 b 1;buyer 9 a 150 stale 30;buyer 9 b 150 stale 30;", 2);
+        bestIs(fresh, 0, 0, 50);
+        bestIs(fresh, 1, 2, 50);
     }
 
     private static void bestIs(MarkdownMarket m, int buyer, int batch, int surplus) {
@@ -264,6 +269,20 @@ final class DayTest {
             }
         }
         strategicExample();
+        strategicLater();
+    }
+
+    private static void strategicLater() {
+        String text = "product a base 100 life 4 markdown 1 80 markdown 3 50 markdown 4 0;batch 2 a 9;";
+        // Day 2 is the present day; the unit keeps till day 5, at the price 50.
+        String[] options = {"patience 2", "patience 3", "patience 4", "patience 30"};
+        int[] days = {3, 5, 5, 5};
+        for (int i = 0; i < options.length; i++) {
+            MarkdownMarket m = Check.market(text + "buyer 2 a 100 " + options[i] + " strategic 14;", 3);
+            Check.same("22 on day 2, " + options[i], m.waitsFor(0), days[i]);
+        }
+        MarkdownMarket dear = Check.market(text + "buyer 2 a 100 patience 3 strategic 15;", 3);
+        Check.same("22 on day 2, as much tomorrow", dear.waitsFor(0), 3);
     }
 
     private static void strategicExample() {

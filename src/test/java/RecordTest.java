@@ -14,6 +14,8 @@ final class RecordTest {
         report();
         saveState();
         restoreState();
+        restoresSumsAndEvents();
+        loadsOverAFuture();
         Check.finish("RecordTest");
     }
 
@@ -147,5 +149,62 @@ final class RecordTest {
         Check.same("53 ladder again", m.percentAt(0, 2), 50);
         Check.same("53 fee", m.setFee(50), 50);
         Check.fails("53 batches", IndexOutOfBoundsException.class, () -> m.discard(2));
+    }
+
+    private static void restoresSumsAndEvents() {
+        MarkdownMarket m = Check.market("fee 50;product a base 40 life 3;batch 0 a 8;batch 1 a 9;batch 2 a 1;batch 3 a 1;"
+                + "buyer 0 a 45;buyer 0 a 40 stale 30 hold 1;buyer 1 a 44 hold 1;buyer 1 a 99;buyer 2 a 99;buyer 3 a 99;"
+                + "buyer 3 a 3;buyer 3 a 4;buyer 3 a 5;", 2);
+        m.discard(0);
+        String events = Check.events(m);
+        int[] figures = {17, 3, 8, 1, 5, 120, 20, 40, 3, 4, 0};
+        m.saveState();
+        m.run(9);
+        Check.same("53 another age", m.meanSoldAge(0) == 1f / 3f, false);
+        Check.same("53 the log is full", m.events(), 20);
+        m.restoreState();
+        Check.same("53 events as they were", Check.events(m), events);
+        for (int i = 0; i < figures.length; i++) {
+            Check.same("53 sum " + i, m.figure(0, i), figures[i]);
+        }
+        Check.same("53 mean age", m.meanSoldAge(0), 1f / 3f);
+        Check.same("53 paid by a buyer who will buy", m.buyer(2, 4), 20);
+        Check.same("53 paid by a buyer to come", m.buyer(4, 4), 0);
+        m.saveState();
+        m.run(1);
+        Check.same("53 paid when bought", m.buyer(2, 4), 40);
+        m.restoreState();
+        Check.same("53 paid while holding", m.buyer(2, 4), 20);
+    }
+
+    /** Whatever a market has been through, the next one begins anew. */
+    private static void loadsOverAFuture() {
+        MarkdownMarket m = Check.market("fee 50;product a base 40 life 3 markdown 1 50;batch 0 a 8;buyer 0 a 45 hold 1;"
+                + "buyer 0 a 4 patience 9;buyer 0 a 45;buyer 0 a 40 stale 50 hold 1;buyer 1 a 30;buyer 3 a 99;", 1);
+        m.saveState();
+        m.run(4);
+        m.bestPercent(0, 12);
+        m.daysToSellOut(0, 60);
+        Check.load(m, "product b base 7 life 5;batch 0 b 3;buyer 0 b 8 patience 3;buyer 2 b 3 patience 9;");
+        Check.same("4 day", m.day(), -1);
+        int[] figures = {0, 0, 0, 0, 0, 0, 0, 7, 5, 0, 0};
+        for (int i = 0; i < figures.length; i++) {
+            Check.same("4 figure " + i, m.figure(0, i), figures[i]);
+        }
+        Check.same("4 ladder", m.percentAt(0, 59), 100);
+        Check.same("4 mean age", m.meanSoldAge(0), 0f);
+        int[] buyer = {0, 8, 0, 3, 0, -1, -1};
+        for (int i = 0; i < buyer.length; i++) {
+            Check.same("4 buyer's property " + i, m.buyer(0, i), buyer[i]);
+        }
+        Check.same("4 state", m.buyerState(0), 0);
+        Check.same("4 waiting", m.waiting(), 0);
+        Check.same("4 holds", m.holds(), 0);
+        Check.same("4 events", m.events(), 0);
+        Check.same("4 batches", m.batches(0), 0);
+        m.run(3);
+        Check.same("4 it goes its way", Check.events(m), "0,0,0,3 0,1,0,7");
+        Check.same("4 mean age of the first day", m.meanSoldAge(0), 0f);
+        Check.same("4 waiting buyer", m.waitingBuyer(0), 1);
     }
 }

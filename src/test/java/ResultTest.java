@@ -121,6 +121,11 @@ final class ResultTest {
         Check.same("39 with a new buyer", m.bestFixedPrice(0), 900);
         Check.same("39 results of 0 are a tie", m.bestFixedPrice(2), 6);
         Check.same("40 greatest price", m.fixedResult(0, 9999), 0);
+        MarkdownMarket rising = Check.market("product a base 1 life 9;product b base 1 life 9;batch 0 a 9;batch 0 b 1;"
+                + "buyer 0 a 10;buyer 0 a 15;buyer 0 a 30;buyer 0 b 1;", 1);
+        Check.same("40 asked first", rising.fixedResult(0, 15), 30);
+        Check.same("39 the smallest on a tie again", rising.bestFixedPrice(0), 10);
+        Check.same("39 a value of 1 counts", rising.bestFixedPrice(1), 1);
         // The buyer of 9 must leave the old unit to the one of 8.
         MarkdownMarket swap = Check.market("product a base 1 life 1;batch 0 a 1;batch 1 a 1;"
                 + "buyer 0 a 9 patience 1;buyer 0 a 8;", 2);
@@ -143,6 +148,9 @@ final class ResultTest {
         MarkdownMarket ladder = Check.market("product a base 60 life 9 markdown 1 50;batch 0 a 2;"
                 + "buyer 0 a 60;buyer 1 a 31;", 2);
         Check.same("41 below 0", ladder.regret(), 62 - 90);
+        ladder.addBuyer(0, 70, 0, -1, 0, 0);
+        ladder.run(1);
+        Check.same("41 after another day", ladder.regret(), 120 - 90);
     }
 
     private static void bestPercent() {
@@ -161,6 +169,12 @@ final class ResultTest {
                 + "buyer 0 a 110 stale 90 hold 1;", 1);
         Check.same("42 with forfeited deposits", forfeit.bestPercent(0, 1), 50);
         MarkdownMarket rounded = Check.market("product a base 3 life 9;batch 0 a 9;buyer 0 a 2;buyer 0 a 3;");
+        Check.same("42 not a day more", Check.market(text + "buyer 0 a 50;buyer 2 a 150;").bestPercent(0, 2), 50);
+        // Whether the holder keeps the unit depends on the deposit and the price of the hold.
+        MarkdownMarket kept = Check.market("fee 90;product a base 100 life 9;batch 0 a 2;buyer 0 a 100 hold 1;", 1);
+        Check.same("42 with the deposit of a hold", kept.bestPercent(0, 1), 50);
+        MarkdownMarket swapped = Check.market("fee 0;product a base 100 life 9;batch 0 a 2;buyer 0 a 100 hold 1;", 1);
+        Check.same("42 with the price of a hold", swapped.bestPercent(0, 1), 100);
         // bases: 50 to 60 percent are 1, 70 to 90 are 2, 100 to 130 are 3, then 4
         Check.same("42 rounded down", rounded.bestPercent(0, 1), 70);
     }
@@ -181,6 +195,8 @@ final class ResultTest {
         MarkdownMarket m = Check.market("product a base 10 life 9;product b base 10 life 3;batch 0 a 2;batch 9 a 1;batch 0 b 5;"
                 + "buyer 2 a 10;buyer 4 a 10 hold 2;buyer 9 a 10;");
         Check.same("43 none now", m.daysToSellOut(0, 1), 0);
+        MarkdownMarket held = Check.market("product a base 10 life 9;batch 0 a 1;buyer 0 a 10 hold 4;", 2);
+        Check.same("43 a hold of these days", held.daysToSellOut(0, 9), 3);
         m.run(1);
         Check.same("43 a hold must end", m.daysToSellOut(0, 60), 6);
         Check.same("43 just within the limit", m.daysToSellOut(0, 6), 6);
