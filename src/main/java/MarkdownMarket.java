@@ -456,13 +456,13 @@ public final class MarkdownMarket {
         checkProduct(product);
         checkRange(limit, 1, MOST_RUN_DAYS);
         draft.copyFrom(live);
-        for (int passed = 0; passed <= limit; passed++) {
+        for (int passed = 0; passed < limit; passed++) {
             if (draft.stockedBatches(product) == 0) {
                 return passed;
             }
             draft.passDay();
         }
-        return -1;
+        return draft.stockedBatches(product) == 0 ? limit : -1;
     }
 
     public float meanSoldAge(int product) throws IndexOutOfBoundsException {
@@ -1597,7 +1597,7 @@ public final class MarkdownMarket {
             }
             searched.size = 0;
             searched.add(newcomer);
-            for (int i = 0; i < searched.size; i++) {
+            for (int i = 0; i < BUYER_LIMIT && i < searched.size; i++) {
                 int ending = searchFrom(searched.numberAt(i));
                 if (ending != NONE) {
                     handOver(ending);

@@ -154,7 +154,7 @@ final class RecordTest {
     private static void restoresSumsAndEvents() {
         MarkdownMarket m = Check.market("fee 50;product a base 40 life 3;batch 0 a 8;batch 1 a 9;batch 2 a 1;batch 3 a 1;"
                 + "buyer 0 a 45;buyer 0 a 40 stale 30 hold 1;buyer 1 a 44 hold 1;buyer 1 a 99;buyer 2 a 99;buyer 3 a 99;"
-                + "buyer 3 a 3;buyer 3 a 4;buyer 3 a 5;", 2);
+                + "buyer 3 a 3;buyer 3 a 4;buyer 3 a 5;buyer 4 a 6;buyer 4 a 7;buyer 4 a 8;", 2);
         m.discard(0);
         String events = Check.events(m);
         int[] figures = {17, 3, 8, 1, 5, 120, 20, 40, 3, 4, 0};
@@ -180,11 +180,12 @@ final class RecordTest {
     /** Whatever a market has been through, the next one begins anew. */
     private static void loadsOverAFuture() {
         MarkdownMarket m = Check.market("fee 50;product a base 40 life 3 markdown 1 50;batch 0 a 8;buyer 0 a 45 hold 1;"
-                + "buyer 0 a 4 patience 9;buyer 0 a 45;buyer 0 a 40 stale 50 hold 1;buyer 1 a 30;buyer 3 a 99;", 1);
+                + "buyer 0 a 4 patience 9;buyer 0 a 45 hold 2;buyer 0 a 40 stale 50 hold 1;buyer 1 a 30;buyer 3 a 99;", 1);
         m.saveState();
         m.run(4);
         m.bestPercent(0, 12);
-        m.daysToSellOut(0, 60);
+        m.restoreState();
+        Check.same("43 units and holds are left in that future", m.daysToSellOut(0, 1), -1);
         Check.load(m, "product b base 7 life 5;batch 0 b 3;buyer 0 b 8 patience 3;buyer 2 b 3 patience 9;");
         Check.same("4 day", m.day(), -1);
         int[] figures = {0, 0, 0, 0, 0, 0, 0, 7, 5, 0, 0};

@@ -61,8 +61,8 @@ final class ResultTest {
         Check.same("35 what was reached", m.welfare(), 90 + 70 + 5);
         MarkdownMarket two = Check.market("product a base 99 life 2;product b base 9 life 2;batch 0 a 2;batch 0 b 1;"
                 + "buyer 0 a 10;buyer 0 a 30;buyer 0 a 20;buyer 0 b 0;buyer 0 b 0;", 1);
-        Check.same("36 units are for their product", two.hindsight(), 50);
         Check.same("37 buyers of no value count", two.mostServed(), 3);
+        Check.same("36 units are for their product", two.hindsight(), 50);
     }
 
     private static void hindsightFits() {
@@ -122,8 +122,9 @@ final class ResultTest {
         Check.same("39 results of 0 are a tie", m.bestFixedPrice(2), 6);
         Check.same("40 greatest price", m.fixedResult(0, 9999), 0);
         MarkdownMarket rising = Check.market("product a base 1 life 9;product b base 1 life 9;batch 0 a 9;batch 0 b 1;"
-                + "buyer 0 a 10;buyer 0 a 15;buyer 0 a 30;buyer 0 b 1;", 1);
-        Check.same("40 asked first", rising.fixedResult(0, 15), 30);
+                + "buyer 0 a 10;buyer 0 a 15;buyer 0 a 30;buyer 0 b 1;buyer 0 b 1;", 1);
+        Check.same("40 asked first", rising.fixedResult(1, 1), 1);
+        Check.same("40 twice 15", rising.fixedResult(0, 15), 30);
         Check.same("39 the smallest on a tie again", rising.bestFixedPrice(0), 10);
         Check.same("39 a value of 1 counts", rising.bestFixedPrice(1), 1);
         // The buyer of 9 must leave the old unit to the one of 8.
@@ -145,6 +146,8 @@ final class ResultTest {
         Check.same("41 at first", m.regret(), 0);
         m.run(1);
         Check.same("41 over all products", m.regret(), 2 * 50 + 2 * 8 + 0 - (80 + 9));
+        MarkdownMarket scarce = Check.market("product a base 5 life 9;batch 0 a 1;buyer 0 a 6;buyer 0 a 5;", 1);
+        Check.same("41 asked first", scarce.regret(), 6 - 5);
         MarkdownMarket ladder = Check.market("product a base 60 life 9 markdown 1 50;batch 0 a 2;"
                 + "buyer 0 a 60;buyer 1 a 31;", 2);
         Check.same("41 below 0", ladder.regret(), 62 - 90);
