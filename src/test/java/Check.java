@@ -6,8 +6,18 @@ final class Check {
 
     private static int made = 0;
     private static int wrong = 0;
+    private static String about = "";
+    private static int madeBefore = 0;
 
     private Check() {
+    }
+
+    /** Every answer from here on is about these words; the words before must have had some. */
+    static void about(String words) {
+        report(about.isEmpty() || made > madeBefore, "is tested", "nothing is", "something");
+        about = words;
+        // The first answer after this one only tells that the words stand in the document.
+        madeBefore = made + 1;
     }
 
     static void same(String what, long got, long due) {
@@ -37,11 +47,21 @@ final class Check {
         report(got.equals(due.getName()), what, got, due.getName());
     }
 
+    static void answers(String what, Call call) {
+        String got = "an answer";
+        try {
+            call.make();
+        } catch (RuntimeException e) {
+            got = e.getClass().getName();
+        }
+        report(got.equals("an answer"), what, got, "an answer");
+    }
+
     private static void report(boolean right, String what, String got, String due) {
         made++;
         if (!right) {
             wrong++;
-            System.out.println("  " + what + ": " + got + ", due is " + due);
+            System.out.println("  " + about + (about.isEmpty() ? "" : ": ") + what + ": " + got + ", due is " + due);
         }
     }
 

@@ -105,29 +105,10 @@ final class GuardTest {
         }
     }
 
-    private static String picture(MarkdownMarket market) {
-        StringBuilder text = new StringBuilder(Check.events(market));
-        for (int i = 0; i < market.buyers(); i++) {
-            for (int what = 0; what < 7; what++) {
-                text.append(' ').append(market.buyer(i, what));
-            }
-        }
-        for (int i = 0; i < market.products(); i++) {
-            for (int what = 0; what < 11; what++) {
-                text.append(' ').append(market.figure(i, what));
-            }
-            for (int age = 0; age < 60; age++) {
-                text.append(' ').append(market.percentAt(i, age));
-            }
-        }
-        return text.append(' ').append(market.day()).append(' ').append(market.holds()).append(' ').append(market.waiting())
-                .toString();
-    }
-
     private static void throwingChangesNothing() {
         MarkdownMarket market = full();
         market.run(3);
-        String before = picture(market);
+        String before = Picture.of(market) + Picture.ofTheRest(market);
         for (Method method : publicMethods()) {
             for (int wrong = 0; wrong < method.getParameterCount(); wrong++) {
                 for (int extreme : EXTREMES) {
@@ -139,7 +120,8 @@ final class GuardTest {
                         market = full();
                         market.run(3);
                     } catch (InvocationTargetException e) {
-                        Check.same(method.getName() + Arrays.toString(values), picture(market), before);
+                        Check.same(method.getName() + Arrays.toString(values),
+                                Picture.of(market) + Picture.ofTheRest(market), before);
                     } catch (IllegalAccessException e) {
                         Check.same(method.getName(), false, true);
                     }
