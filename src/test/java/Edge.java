@@ -30,4 +30,13 @@ final class Edge {
         Check.fails(what, due, call);
         Check.same(what + ", nothing is changed", Picture.of(market) + Picture.ofTheRest(market), before);
     }
+
+    /** From now on the two markets answer alike, whatever each of them has been through before. */
+    static void goTheSameWay(MarkdownMarket one, MarkdownMarket other, int days) {
+        for (int i = 0; i <= days; i++) {
+            Check.same("on day " + one.day(), Picture.of(one), Picture.of(other));
+            Check.same("future from day " + one.day(), Picture.ofTheFuture(one), Picture.ofTheFuture(other));
+            Check.same("units bought", one.run(1), other.run(1));
+        }
+    }
 }

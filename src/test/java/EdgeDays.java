@@ -125,6 +125,9 @@ final class EdgeDays {
         MarkdownMarket greatest = Check.market(two + "buyer 9 a 200;buyer 9 a 200 stale 2;", 2);
         Check.same("101 and 100", greatest.bestBatch(0) * 1000 + greatest.bestSurplus(0), 101);
         Check.same("99 and 100", greatest.bestBatch(1) * 1000 + greatest.bestSurplus(1), 1100);
+        // At one price, the older unit leaves less, though it was delivered first.
+        String one = "product a base 100 life 9;batch 1 a 1;batch 0 a 1;buyer 9 a 200 stale 1;";
+        Check.same("100 and 99", Check.market(one, 2).bestBatch(0), 0);
         quote("on a tie the one with the lowest price,");
         Check.same("99 and 1 day, or 100", Check.market(two + "buyer 9 a 200 stale 1;", 2).bestBatch(0), 0);
         String turned = two.replace("batch 0 a 1;batch 1 a 1;", "batch 1 a 1;batch 0 a 1;");

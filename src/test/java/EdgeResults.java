@@ -126,6 +126,8 @@ final class EdgeResults {
         fit("batch 0 a 1;buyer 0 a 7;buyer 0 a 7;", 1, 1);
         fit("batch 0 a 2;buyer 0 a 7;buyer 0 a 7;", 1, 2);
         fit("batch 0 a 2;buyer 0 a 7;", 1, 1);
+        fit("batch 0 a 1;batch 0 b 1;buyer 0 a 7;buyer 0 a 7;buyer 1 b 7;", 1, 1);
+        fit("batch 0 a 1;batch 0 b 1;batch 0 b 1;buyer 0 b 7;buyer 0 a 7;buyer 0 a 7;", 1, 2);
         fit("batch 0 b 40;" + "buyer 0 b 7;".repeat(40), 1, 40);
         fit("batch 0 b 39;" + "buyer 0 b 7;".repeat(40), 1, 39);
         fit("batch 0 b 1;".repeat(24) + "buyer 0 b 7;".repeat(40), 1, 24);
@@ -168,8 +170,9 @@ final class EdgeResults {
 
     private static void future() {
         quote("Questions about the future simulate a copy of the whole state and change nothing.");
-        MarkdownMarket m = Check.market("fee 20;product a base 10 life 2 markdown 1 50;product b base 9 life 9;batch 0 a 3;"
-                + "batch 1 a 3;batch 0 b 1;buyer 0 a 10 hold 1;buyer 0 a 9 patience 3 strategic 1;buyer 2 a 20;buyer 1 b 9;", 1);
+        String text = "fee 20;product a base 10 life 2 markdown 1 50;product b base 9 life 9;batch 0 a 3;batch 1 a 3;"
+                + "batch 0 b 1;buyer 0 a 10 hold 1;buyer 0 a 9 patience 3 strategic 1;buyer 2 a 20;buyer 1 b 9;";
+        MarkdownMarket m = Check.market(text, 1);
         m.saveState();
         m.printReport();
         Check.load(m, "fee 1;$");
@@ -182,13 +185,32 @@ final class EdgeResults {
             m.daysToSellOut(product, 1);
             Check.same("nothing is changed", Picture.of(m) + Picture.ofTheRest(m), before);
         }
-        MarkdownMarket other = Check.market("fee 20;product a base 10 life 2 markdown 1 50;product b base 9 life 9;batch 0 a 3;"
-                + "batch 1 a 3;batch 0 b 1;buyer 0 a 10 hold 1;buyer 0 a 9 patience 3 strategic 1;buyer 2 a 20;buyer 1 b 9;", 1);
-        m.run(5);
-        other.run(5);
-        Check.same("it goes the same way", Picture.of(m), Picture.of(other));
+        Edge.goTheSameWay(m, Check.market(text, 1), 5);
         m.restoreState();
         Check.same("the saved state is the same", Picture.of(m) + Picture.ofTheRest(m), before);
+        futureEachDay();
+    }
+
+    /** Of two markets one is asked each day, the other one on one day only: their answers are the same. */
+    private static void futureEachDay() {
+        String text = "fee 35;product a base 100 life 4 markdown 1 80 markdown 3 50;product b base 9 life 60;batch 1 a 3;"
+                + "batch 2 b 2;batch 4 a 6;buyer 1 a 110 stale 25 hold 1;buyer 1 a 100 patience 6 strategic 3;"
+                + "buyer 2 a 60 patience 9 hold 2;buyer 2 a 120 hold 9;buyer 3 b 9 hold 3;buyer 4 a 130 stale 40 hold 2;"
+                + "buyer 6 a 100 hold 4;buyer 7 a 45 patience 9;";
+        MarkdownMarket often = Check.market(text);
+        for (int days = 1; days <= 12; days++) {
+            MarkdownMarket once = Check.market(text, days);
+            Picture.ofTheFuture(often);
+            often.run(1);
+            Check.same("after days: " + days, Picture.ofTheFuture(often), Picture.ofTheFuture(once));
+            often.setFee(days);
+            once.setFee(days);
+            often.setBase(0, 60 + 5 * days);
+            once.setBase(0, 60 + 5 * days);
+            Check.same("with other prices", Picture.ofTheFuture(often), Picture.ofTheFuture(once));
+            often.setFee(35);
+            often.setBase(0, 100);
+        }
     }
 
     private static void incomeAndWelfare() {

@@ -168,6 +168,10 @@ final class EdgeViews {
         Check.same("not yet", dear.figure(0, 9), 4);
         dear.run(1);
         Check.same("now", dear.figure(0, 9) * 10 + dear.figure(0, 10), 52);
+        MarkdownMarket all = Check.market("product a base 10 life 9;" + "buyer 0 a 9;".repeat(39) + "buyer 1 a 9;", 1);
+        Check.same("39 of 40", all.figure(0, 9) * 100 + all.figure(0, 10), 3939);
+        all.run(1);
+        Check.same("40 of 40", all.figure(0, 9) * 100 + all.figure(0, 10), 4040);
     }
 
     private static void batches() {

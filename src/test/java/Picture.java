@@ -34,6 +34,16 @@ final class Picture {
         return text.append(" output ").append(Check.output(market)).toString();
     }
 
+    /** What the questions about the future answer. */
+    static String ofTheFuture(MarkdownMarket market) {
+        StringBuilder text = new StringBuilder();
+        for (int i = 0; i < market.products(); i++) {
+            put(text, "future of " + i, market.bestPercent(i, 1), market.bestPercent(i, 5), market.bestPercent(i, 12),
+                    market.daysToSellOut(i, 60));
+        }
+        return text.toString();
+    }
+
     static int inputLength(MarkdownMarket market) {
         int length = 1200;
         while (!market.truncateInput(length)) {
