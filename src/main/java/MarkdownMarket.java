@@ -1313,6 +1313,7 @@ public final class MarkdownMarket {
         private int position;
         private int kind;
         private int start;
+        private final StringBuilder letters = new StringBuilder();
         private String word = "";
         private int number;
         private boolean feeSeen;
@@ -1510,7 +1511,7 @@ public final class MarkdownMarket {
         }
 
         private void scanWord() {
-            StringBuilder letters = new StringBuilder();
+            letters.setLength(0);
             while (position < length && isLetter(byteAt(position))) {
                 letters.append((char) byteAt(position));
                 position++;

@@ -336,10 +336,33 @@ final class EdgeChanges {
         for (int age = 1; age <= 5; age++) {
             Check.same("room for five", m.markDown(0, age, age), age);
         }
+        stepsOnceRemoved();
         Document.quote(30, PRODUCT);
         Check.same("the last product", m.removeStep(1, 1), true);
         Document.quote(30, NO_PRODUCT);
         Edge.refuses(m, Edge.INDEX, 0, 1, product -> m.removeStep(product, 1));
+    }
+
+    private static void stepsOnceRemoved() {
+        int[][] orders = {{5, 4, 3}, {3, 4, 5}, {1, 5, 3}, {4, 2, 1}};
+        for (int[] order : orders) {
+            for (int again : order) {
+                MarkdownMarket m = Check.market("product a base 10 life 9;");
+                for (int age = 1; age <= 5; age++) {
+                    m.markDown(0, age, 10 * age);
+                }
+                for (int age : order) {
+                    Check.same("removed", m.removeStep(0, age), true);
+                }
+                for (int age : order) {
+                    Check.same("is no step any more", m.removeStep(0, age), false);
+                }
+                Check.same("one of them again", m.markDown(0, again, 99), 3);
+                for (int age : order) {
+                    Check.same("only that one", m.removeStep(0, age), age == again);
+                }
+            }
+        }
     }
 
     private static void sell() {

@@ -242,6 +242,7 @@ final class EdgeRecords {
             m.run(9);
             Check.same("what follows after days: " + days, Picture.of(m), Picture.of(Check.market(TEXT, days + 9)));
         }
+        fullLog();
         Document.quote(52, "in place of an earlier saved state.");
         MarkdownMarket m = Check.market(TEXT);
         m.saveState();
@@ -255,6 +256,21 @@ final class EdgeRecords {
         Check.same("before the first day of a text", Check.market(TEXT).saveState(), -1);
         Check.same("on the first day", Check.market(TEXT, 1).saveState(), 0);
         Check.same("on day 59", Check.market(TEXT, 60).saveState(), 59);
+    }
+
+    private static void fullLog() {
+        MarkdownMarket m = Check.market(BATCHES + "batch 1 a 1;".repeat(5), 1);
+        m.discard(7);
+        String saved = Check.events(m);
+        m.saveState();
+        Check.same("20 events", m.events(), 20);
+        m.run(60);
+        Check.same("20 other events", m.event(0, 0) * 10 + m.event(19, 1), 15);
+        m.restoreState();
+        events(m, saved);
+        m.run(1);
+        Check.same("the 6th event is the oldest one", saved.endsWith(Check.events(m).replaceAll(" 1,.*", "")), true);
+        Check.same("five more", m.event(19, 0) * 100 + m.event(19, 2), 123);
     }
 
     private static void changeAll(MarkdownMarket m) {

@@ -559,12 +559,13 @@ final class EdgeText {
     /** The market before had more of everything, and everything at work: held units, waiting buyers, days to come. */
     private static void afterALoadOverMore() {
         String more = "fee 50;product a base 90 life 4 markdown 1 90 markdown 2 50;product b base 20 life 9;"
-                + "product c base 30 life 60;batch 0 a 9;batch 0 a 9;batch 1 b 9;batch 2 a 9;batch 4 a 9;batch 5 c 9;"
+                + "product c base 30 life 60;batch 0 a 9;batch 1 b 9;batch 0 a 9;batch 2 a 9;batch 4 a 9;batch 5 c 9;"
                 + "buyer 0 a 95;buyer 0 a 95 stale 80 hold 1;buyer 0 a 90 patience 9 strategic 1;buyer 0 a 95 hold 9;"
                 + "buyer 1 a 20 patience 30;buyer 2 a 21 patience 30;buyer 3 a 95;buyer 4 a 9;buyer 5 c 40 hold 2;";
         String[] less = {"product q base 10 life 2;batch 0 q 2;buyer 0 q 9 patience 3;buyer 1 q 10 hold 2;",
             "product q base 90 life 3;product r base 1 life 3;batch 0 q 2;batch 1 q 1;buyer 0 q 90 patience 2 strategic 0;"
-            + "buyer 0 q 95 hold 1;buyer 1 q 99;", "product q base 5 life 9;", BUSY, more};
+            + "buyer 0 q 95 hold 1;buyer 1 q 99;", "product q base 5 life 9;", BUSY, more,
+            "product q base 90 life 4 markdown 2 50;batch 1 q 2;batch 1 q 1;buyer 1 q 90 patience 1 strategic 0;"};
         for (int days = 0; days <= 6; days++) {
             for (String text : less) {
                 MarkdownMarket m = Check.market(more);
