@@ -301,6 +301,7 @@ final class EdgeRecords {
             m.restoreState();
             Check.same("round " + round, Picture.of(m), saved);
         }
+        addedSinceThen();
         Document.quote(53, "Returns the day of that state.");
         Check.same("0", m.restoreState(), 0);
         MarkdownMarket empty = new MarkdownMarket();
@@ -318,6 +319,28 @@ final class EdgeRecords {
         Check.same("a load with an error keeps it", loaded.restoreState(), 1);
         Check.load(loaded, TEXT);
         Edge.refuses(loaded, "after a load", Edge.STATE, loaded::restoreState);
+    }
+
+    /** What was added after the save is no part of the state, though its numbers are given out again. */
+    private static void addedSinceThen() {
+        MarkdownMarket m = Check.market("product a base 9 life 9;");
+        m.saveState();
+        m.addBatch(0, 5);
+        m.addBuyer(0, 9, 30, -1, 0, 9);
+        m.markDown(0, 1, 50);
+        m.run(1);
+        Check.same("held", m.holds() * 10 + m.mostServed(), 11);
+        m.restoreState();
+        Check.same("number of the next buyer", m.addBuyer(0, 8, 30, -1, 0, 0), 0);
+        m.run(1);
+        Check.same("nothing is sold, held or delivered", m.figure(0, 0) + m.figure(0, 1) + m.figure(0, 2) + m.holds(), 0);
+        Check.same("nothing is there in hindsight", m.mostServed() + m.hindsight() + m.fixedResult(0, 8), 0);
+        Check.same("nothing is the best", m.bestBatch(0), -1);
+        Check.fails("no batch", Edge.INDEX, () -> m.discard(0));
+        Check.same("no step", m.percentAt(0, 59), 100);
+        Check.same("number of the next batch", m.addBatch(0, 1), 0);
+        m.run(1);
+        Check.same("one unit", m.figure(0, 0) * 10 + m.mostServed(), 11);
     }
 
     /** "An object is used for at most 512 calls": the last of them answers as well as the first. */

@@ -138,6 +138,9 @@ final class EdgeResults {
         MarkdownMarket m = Check.market("product a base 9 life 1;batch 0 a 1;batch 1 a 1;buyer 0 a 5 patience 1;buyer 0 a 9;"
                 + "buyer 1 a 6;buyer 0 a 0 patience 1;", 2);
         Check.same("9 and 6", m.hindsight(), 15);
+        // Nothing fits the buyer of the greatest value, who must take no unit from the others.
+        MarkdownMarket late = Check.market("product a base 99 life 1;batch 0 a 2;buyer 0 a 5;buyer 1 a 9;buyer 0 a 4;", 2);
+        Check.same("5 and 4", late.hindsight() * 10 + late.mostServed(), 92);
         Check.same("without buyers", Check.market("product a base 9 life 1;batch 0 a 1;", 1).hindsight(), 0);
         Check.same("without units", Check.market("product a base 9 life 1;buyer 0 a 9;", 1).hindsight(), 0);
         MarkdownMarket most = Check.market("product a base 1 life 1;batch 0 a 40;" + "buyer 0 a 9999;".repeat(40), 1);
