@@ -16,7 +16,7 @@ final class Document {
     private Document() {
     }
 
-    /** What is checked from here on is about these words, of the description or of a promise. */
+    /** What is checked from here on is about these words, of a promise or ahead of them. */
     static void quote(int part, String words) {
         Check.about((part == DESCRIPTION ? "" : part + " ") + "\"" + words + "\"");
         String text = PARTS.get(part);
@@ -52,14 +52,15 @@ final class Document {
         return QUOTED.get(part);
     }
 
-    /** Part 0 is the description, part n is promise n; headings and signatures are left out. */
+    /** Part 0 is all that stands ahead of promise 1, part n is promise n; headings and signatures are left out. */
     private static List<String> read() {
         List<StringBuilder> parts = new ArrayList<>();
         boolean within = false;
         for (String line : lines()) {
             if (line.startsWith("## ")) {
-                within = line.equals("## Description") || line.startsWith("## Promise ");
-                if (within) {
+                boolean begins = line.equals("## What it is") || line.startsWith("## Promise ");
+                within = begins || line.equals("## Description");
+                if (begins) {
                     parts.add(new StringBuilder());
                 }
             } else if (within && !line.matches("`.*`")) {

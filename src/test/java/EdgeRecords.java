@@ -15,7 +15,6 @@ final class EdgeRecords {
         outputByte();
         saveState();
         restoreState();
-        calls();
     }
 
     private static void quote(String words) {
@@ -341,26 +340,5 @@ final class EdgeRecords {
         Check.same("number of the next batch", m.addBatch(0, 1), 0);
         m.run(1);
         Check.same("one unit", m.figure(0, 0) * 10 + m.mostServed(), 11);
-    }
-
-    /** "An object is used for at most 512 calls": the last of them answers as well as the first. */
-    private static void calls() {
-        Check.about("An object is used for at most 512 calls");
-        MarkdownMarket m = Check.market("product a base 10 life 9;");
-        for (int i = 0; i < 512; i++) {
-            Check.same("units", m.run(60), 0);
-        }
-        Check.same("day", m.day(), 512 * 60 - 1);
-        m.addBatch(0, 1);
-        m.addBuyer(0, 12, 30, -1, 0, 0);
-        Check.same("a unit at last", m.run(1), 1);
-        Check.same("on that day", m.buyer(0, 5) - m.buyer(0, 3), -30);
-        MarkdownMarket pieces = new MarkdownMarket();
-        for (int i = 0; i < 8; i++) {
-            for (int k = 1; k <= 60; k++) {
-                Check.same("length", pieces.appendInput(0x20202020, 0x20202020, 0x20202020, 0x20202020, 0x20202020), 20 * k);
-            }
-            Check.same("load", pieces.loadMarket(), 0);
-        }
     }
 }

@@ -4,6 +4,7 @@ final class EdgeTest {
     }
 
     public static void main(String[] args) {
+        EdgeFirst.test();
         EdgeText.test();
         EdgeDays.test();
         EdgeViews.test();

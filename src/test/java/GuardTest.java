@@ -11,6 +11,7 @@ import java.util.List;
 import java.util.Random;
 import java.util.Set;
 import java.util.TreeSet;
+import java.util.stream.Collectors;
 
 /** The face and nothing else, no exception of the machine for any argument, little room, and a program in the rules. */
 final class GuardTest {
@@ -35,24 +36,22 @@ final class GuardTest {
         return methods;
     }
 
-    /** The signatures are read from the document itself. */
+    /** The signatures, with the exceptions in their order, are read from the document itself. */
     private static void face() throws IOException {
         Set<String> due = new TreeSet<>();
         boolean inside = false;
         for (String line : Files.readAllLines(Path.of("..", "shared", "DOC.md"))) {
             inside = inside && !line.startsWith("```") || line.startsWith("```java");
             if (inside && line.startsWith("    public ") && line.contains("(")) {
-                due.add(line.strip().replaceAll(" (throws .*)?;?$|;$", "").replaceAll(" [a-z]+([,)])", "$1"));
+                due.add(line.strip().replaceAll(";$", "").replaceAll(" [a-z]+([,)])", "$1"));
             }
         }
         Set<String> got = new TreeSet<>();
         got.add("public MarkdownMarket()");
         for (Method method : publicMethods()) {
-            StringBuilder text = new StringBuilder("public " + method.getReturnType() + " " + method.getName() + "(");
-            for (int i = 0; i < method.getParameterCount(); i++) {
-                text.append(i == 0 ? "" : ", ").append(method.getParameterTypes()[i]);
-            }
-            got.add(text + ")");
+            got.add("public " + method.getReturnType() + " " + method.getName()
+                    + "(" + names(method.getParameterTypes()) + ")"
+                    + (method.getExceptionTypes().length == 0 ? "" : " throws " + names(method.getExceptionTypes())));
         }
         Check.same("the face", String.join("\n", got), String.join("\n", due));
         Check.same("the face has methods", got.size(), 53);
@@ -62,6 +61,10 @@ final class GuardTest {
                 .filter(method -> !Modifier.isPublic(method.getModifiers()))
                 .filter(method -> !Modifier.isPrivate(method.getModifiers())).count(), 0);
         Check.same("final", Modifier.isFinal(MarkdownMarket.class.getModifiers()), true);
+    }
+
+    private static String names(Class<?>[] types) {
+        return Arrays.stream(types).map(Class::getSimpleName).collect(Collectors.joining(", "));
     }
 
     private static final int[] EXTREMES = {Integer.MIN_VALUE, Integer.MIN_VALUE + 1, -10000, -1, 0, 1, 2, 5, 6, 23, 24,

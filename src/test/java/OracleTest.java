@@ -11,6 +11,8 @@ import java.util.Random;
 final class OracleTest {
     private static final int RUNS = 1500;
     private static final int CALLS = 60;
+    /** One run in so many is of a market that is full of batches and buyers. */
+    private static final int CROWDED = 50;
 
     private final Random random;
     private final List<Method> face = new ArrayList<>();
@@ -42,7 +44,9 @@ final class OracleTest {
         market = new MarkdownMarket();
         naive = new NaiveMarket();
         history.clear();
-        if (random.nextInt(20) > 0) {
+        if (run % CROWDED == 1) {
+            crowd();
+        } else if (random.nextInt(20) > 0) {
             load(text());
         }
         for (int i = 0; i < CALLS; i++) {
@@ -50,6 +54,24 @@ final class OracleTest {
         }
         compareAll();
         Check.same("run " + run + " agrees", true, true);
+    }
+
+    /** As many batches and buyers as there may be, few units for many, and all on a few days. */
+    private void crowd() {
+        int products = 1 + random.nextInt(2);
+        int life = 1 + random.nextInt(4);
+        load("product a base 50 life " + life + " markdown 1 70;product b base 20 life " + (life + 2) + ";");
+        for (int day = 0; day < 6; day++) {
+            for (int i = 0; i < 4; i++) {
+                both("addBatch", random.nextInt(products), 1 + random.nextInt(2) * random.nextInt(4));
+            }
+            for (int i = 0; i < 7; i++) {
+                both("addBuyer", random.nextInt(products), random.nextInt(90), random.nextInt(6),
+                        random.nextInt(3) == 0 ? random.nextInt(9) : -1, random.nextInt(2) * random.nextInt(9),
+                        random.nextInt(3) == 0 ? 1 + random.nextInt(4) : 0);
+            }
+            both("run", 1);
+        }
     }
 
     private void step() {
